@@ -42,7 +42,7 @@ public final class PromiseTests {
         }
     }
 
-    /** The call throws exactly this class, and changes nothing. */
+    /** The call throws exactly this class, by a throw of the class itself, and changes nothing. */
     private static void refused(GliderDay day, String what, Class<?> want, Call call) {
         long before = day.digest();
         Class<?> got = null;
@@ -50,6 +50,8 @@ public final class PromiseTests {
             call.run();
         } catch (RuntimeException e) {
             got = e.getClass();
+            String thrower = e.getStackTrace()[0].getClassName();
+            due(what + " is refused by the class and not by " + thrower, thrower.equals("GliderDay"), true);
         }
         if (got != want) {
             wrong++;
@@ -374,7 +376,6 @@ public final class PromiseTests {
         gliderFacts(day, 1, 2, 0, 0, 0, 2);
         day.tick(2);
         gliderFacts(day, 1, 0, 0, 1, 6, -1);
-        day.setTugs(1);
         day.ask(2, -1, 0, 200, 200);
         day.tick(250);
         gliderFacts(day, 0, 0, 0, 2, 206, -1);
@@ -479,7 +480,7 @@ public final class PromiseTests {
         due("barred comes before seats", day.reason(4), 2);
         due("barred comes before teaching", day.reason(5), 2);
         day.bar(2, false);
-        day.setWind(41 - 1);
+        day.setWind(40);
         due("seats come before wind", day.reason(4), 3);
         due("teaching comes before wind", day.reason(5), 4);
         due("wind", day.reason(0), 5);
@@ -743,7 +744,6 @@ public final class PromiseTests {
         flightFacts(day, 2, 2, 2, -1, 2, 1500, 212, 393, 75 + 180 * 7);
         day.drop(day.ask(2, 0, 0, 0, 9));
         flightFacts(day, 3, 3, 2, 0, 0, 0, -1, -1, 0);
-        day.setTugs(1);
         day.ask(0, -1, 0, 239, 179);
         day.tick(190);
         flightFacts(day, 4, 2, 0, -1, 0, 239, 412, 591, 11 + 179 * 3);
@@ -987,6 +987,11 @@ public final class PromiseTests {
             }
         }
         due("the methods are those of the face: " + found, found.equals(new TreeSet<>(Arrays.asList(want))), true);
+        for (Method m : GliderDay.class.getDeclaredMethods()) {
+            boolean isNamesake = Modifier.isPrivate(m.getModifiers())
+                    && Arrays.stream(want).anyMatch(w -> w.startsWith(m.getName() + "("));
+            due(m + " bears the name of a public one", isNamesake, false);
+        }
         for (Field f : GliderDay.class.getDeclaredFields()) {
             due(f + " is private", Modifier.isPrivate(f.getModifiers()), true);
         }

@@ -410,6 +410,10 @@ public final class RandomRuns {
         try {
             return answer(x, call, a);
         } catch (RuntimeException e) {
+            // What the Java machine or its library throws by itself never answers a call, whatever its class.
+            if (!e.getStackTrace()[0].getClassName().equals("GliderDay")) {
+                return OTHER;
+            }
             return e.getClass() == IndexOutOfBoundsException.class ? BOUNDS
                     : e.getClass() == IllegalArgumentException.class ? ARGUMENT
                     : e.getClass() == IllegalStateException.class ? STATE : OTHER;
