@@ -6,108 +6,7 @@ import java.util.Arrays;
 import java.util.TreeSet;
 
 /** One test for each promise of the document, and one for the whole face. */
-public final class PromiseTests {
-    private static final Class<?> BOUNDS = IndexOutOfBoundsException.class;
-    private static final Class<?> ARGUMENT = IllegalArgumentException.class;
-    private static final Class<?> STATE = IllegalStateException.class;
-    private static final int STUDENT = 0;
-    private static final int SOLO = 1;
-    private static final int PILOT = 2;
-    private static final int TEACHER = 3;
-    private static final int MIN = Integer.MIN_VALUE;
-    private static final int MAX = Integer.MAX_VALUE;
-
-    private static String promise = "";
-    private static int wrong = 0;
-
-    private interface Call {
-        void run();
-    }
-
-    private static void due(String what, long got, long want) {
-        if (got != want) {
-            wrong++;
-            System.out.println(promise + ": " + what + " answered " + got + ", due is " + want);
-        }
-    }
-
-    private static void due(String what, boolean got, boolean want) {
-        due(what, got ? 1 : 0, want ? 1 : 0);
-    }
-
-    private static void dueMean(String what, double got, double want) {
-        if (!(got == want)) {
-            wrong++;
-            System.out.println(promise + ": " + what + " answered " + got + ", due is " + want);
-        }
-    }
-
-    /** The call throws exactly this class, by a throw of the class itself, and changes nothing. */
-    private static void refused(GliderDay day, String what, Class<?> want, Call call) {
-        long before = day.digest();
-        Class<?> got = null;
-        try {
-            call.run();
-        } catch (RuntimeException e) {
-            got = e.getClass();
-            String thrower = e.getStackTrace()[0].getClassName();
-            due(what + " is refused by the class and not by " + thrower, thrower.equals("GliderDay"), true);
-        }
-        if (got != want) {
-            wrong++;
-            System.out.println(promise + ": " + what + " threw " + got + ", due is " + want);
-        }
-        due(what + " leaves the digest", day.digest(), before);
-    }
-
-    private static GliderDay withMembers(int... levels) {
-        GliderDay day = new GliderDay();
-        for (int level : levels) {
-            day.addMember(level);
-        }
-        return day;
-    }
-
-    /** Members of these levels and three gliders: 0 and 1 with two seats, 2 with one. */
-    private static GliderDay club(int... levels) {
-        GliderDay day = withMembers(levels);
-        day.addGlider(2, 3, 40);
-        day.addGlider(2, 5, 40);
-        day.addGlider(1, 7, 40);
-        return day;
-    }
-
-    private static void counts(GliderDay day, int... want) {
-        for (int what = 0; what < want.length; what++) {
-            due("count(" + what + ")", day.count(what), want[what]);
-        }
-    }
-
-    private static void memberFacts(GliderDay day, int member, int... want) {
-        for (int what = 0; what < want.length; what++) {
-            due("member(" + member + ", " + what + ")", day.member(member, what), want[what]);
-        }
-    }
-
-    private static void gliderFacts(GliderDay day, int glider, int... want) {
-        for (int what = 0; what < want.length; what++) {
-            due("glider(" + glider + ", " + what + ")", day.glider(glider, what), want[what]);
-        }
-    }
-
-    private static void flightFacts(GliderDay day, int flight, int... want) {
-        for (int what = 0; what < want.length; what++) {
-            due("flight(" + flight + ", " + what + ")", day.flight(flight, what), want[what]);
-        }
-    }
-
-    private static void listIs(GliderDay day, int... want) {
-        for (int place = 0; place < want.length; place++) {
-            due("list(" + place + ")", day.list(place), want[place]);
-        }
-        due("list() behind its end", day.list(want.length), -1);
-    }
-
+public final class PromiseTests extends Checks {
     private static void newObject() {
         GliderDay day = new GliderDay();
         counts(day, 0, 0, 0, 0, 0, 0, 2, 1);
@@ -276,7 +175,7 @@ public final class PromiseTests {
             int m = member;
             refused(day, "promote too early " + m, STATE, () -> day.promote(m));
         }
-        lessons(day, 0, 2);
+        lessons(day, 0, 1, 2);
         refused(day, "promote after 2", STATE, () -> day.promote(0));
         day.ask(0, 1, 0, 0, 2);
         day.ask(0, 1, 0, 0, 2);
@@ -291,7 +190,7 @@ public final class PromiseTests {
         due("promote", day.promote(0), SOLO);
         due("its level", day.member(0, 0), SOLO);
         refused(day, "promote again", STATE, () -> day.promote(0));
-        lessons(day, 0, 2);
+        lessons(day, 0, 1, 2);
         refused(day, "seven lessons make no PILOT", STATE, () -> day.promote(0));
         solos(day, 0, 4);
         refused(day, "promote after 4", STATE, () -> day.promote(0));
@@ -303,22 +202,8 @@ public final class PromiseTests {
         solos(day, 1, 6);
         refused(day, "promote a TEACHER with six", STATE, () -> day.promote(1));
         GliderDay exact = club(STUDENT, TEACHER);
-        lessons(exact, 0, 3);
+        lessons(exact, 0, 1, 3);
         due("promote after just 3", exact.promote(0), SOLO);
-    }
-
-    private static void lessons(GliderDay day, int student, int times) {
-        for (int i = 0; i < times; i++) {
-            day.ask(student, 1, 0, 0, 2);
-            day.tick(30);
-        }
-    }
-
-    private static void solos(GliderDay day, int member, int times) {
-        for (int i = 0; i < times; i++) {
-            day.ask(member, -1, 0, 200, 2);
-            day.tick(10);
-        }
     }
 
     private static void member() {
@@ -924,22 +809,26 @@ public final class PromiseTests {
             known = known * 31 + x;
         }
         due("digest of nothing, by hand", day.digest(), known);
-        day = club(PILOT, SOLO, TEACHER, STUDENT);
-        due("digest of a club", day.digest(), digestOf(day));
-        day.ask(0, -1, 2, 700, 20);
-        day.ask(3, 2, 0, 0, 5);
-        day.ask(1, 0, 1, 0, 30);
-        day.ask(1, 2, 1, 0, 30);
-        day.bar(1, true);
-        due("digest of a list", day.digest(), digestOf(day));
-        day.drop(2);
-        for (int i = 0; i < 40; i++) {
-            day.tick(1);
+        due("digest of a list", listedDay().digest(), digestOf(listedDay()));
+        for (int minutes = 1; minutes <= 40; minutes++) {
+            day = listedDay();
+            day.drop(2);
+            day.tick(minutes);
             due("digest at " + day.now(), day.digest(), digestOf(day));
         }
         day.pay(1, 99999);
         due("digest after paying", day.digest(), digestOf(day));
         due("digest again", day.digest(), digestOf(day));
+    }
+
+    private static GliderDay listedDay() {
+        GliderDay day = club(PILOT, SOLO, TEACHER, STUDENT);
+        day.ask(0, -1, 2, 700, 20);
+        day.ask(3, 2, 0, 0, 5);
+        day.ask(1, 0, 1, 0, 30);
+        day.ask(1, 2, 1, 0, 30);
+        day.bar(1, true);
+        return day;
     }
 
     private static long digestOf(GliderDay day) {
@@ -1001,25 +890,6 @@ public final class PromiseTests {
         due("the class is public and final", GliderDay.class.getModifiers(), Modifier.PUBLIC | Modifier.FINAL);
     }
 
-    private static int passed = 0;
-    private static int failed = 0;
-
-    private static void test(String name, Call body) {
-        promise = name;
-        int before = wrong;
-        try {
-            body.run();
-        } catch (RuntimeException e) {
-            wrong++;
-            System.out.println(name + ": broke off with " + e);
-        }
-        if (wrong == before) {
-            passed++;
-        } else {
-            failed++;
-        }
-    }
-
     public static void main(String[] args) {
         test("the public face", PromiseTests::face);
         test("promise 1, a new object", PromiseTests::newObject);
@@ -1048,9 +918,6 @@ public final class PromiseTests {
         test("promise 24, longest", PromiseTests::longest);
         test("promise 25, waited", PromiseTests::waited);
         test("promise 26, digest", PromiseTests::digest);
-        System.out.println(passed + " passed, " + failed + " failed");
-        if (failed != 0) {
-            System.exit(1);
-        }
+        finish();
     }
 }
