@@ -55,6 +55,25 @@ public final class TermsBoundaryTests extends Checks {
         due("the end by 300", whole.now(), 1500);
     }
 
+    private static void whatIsInTheAirAt1500StaysThere() {
+        GliderDay day = club(PILOT, PILOT, PILOT);
+        day.setSunset(1500);
+        for (int i = 0; i < 4; i++) {
+            day.tick(300);
+        }
+        day.tick(270);
+        for (int i = 0; i < 3; i++) {
+            day.ask(i, -1, i, 0, 300);
+        }
+        day.tick(30);
+        due("two fly at the end", day.count(4), 2);
+        due("one landed in the last minute", day.flight(0, 6), 1500);
+        due("both wait", day.count(5), 2);
+        refused(day, "a minute in which it would land", ARGUMENT, () -> day.tick(1));
+        due("it has no landing", day.flight(1, 6), -1);
+        due("it costs nothing", day.bill(1), 0);
+    }
+
     // ---- divisions are cut towards 0
 
     private static int costOf(int height) {
@@ -521,6 +540,29 @@ public final class TermsBoundaryTests extends Checks {
         due("a club without tugs", day.reason(byTug), 7);
     }
 
+    /** The reasons against a start in these minutes, of a flight that is held back by its barred glider. */
+    private static void reasonsInMinutes(GliderDay day, String after, int... want) {
+        int flight = day.ask(1, -1, 2, 0, 5);
+        for (int each : want) {
+            due("minutes after " + after + ", reason at " + day.now(), day.reason(flight), each);
+            passWithGlider2Barred(day, 1);
+        }
+    }
+
+    private static void theFieldIsBusy() {
+        for (int height : new int[] {0, 500}) {
+            GliderDay day = club(PILOT, PILOT);
+            day.ask(0, -1, 0, height, 10);
+            day.tick(1);
+            if (height == 0) {
+                reasonsInMinutes(day, "a winch start", 8, 8, 0, 0, 0, 0, 0, 0, 0, 0, 8, 8, 0, 0);
+            } else {
+                reasonsInMinutes(day, "a tug start", 8, 8, 8, 0, 0, 0, 0, 0, 0, 0, 8, 8, 0, 0);
+            }
+            due("the landing", day.flight(0, 6), 11);
+        }
+    }
+
     private static void theFirstOfTheReasons() {
         GliderDay day = club(STUDENT, PILOT, TEACHER);
         day.ask(1, -1, 2, 0, 300);
@@ -882,6 +924,25 @@ public final class TermsBoundaryTests extends Checks {
         }
     }
 
+    private static void paidForTheMinutesFlown() {
+        GliderDay day = club(PILOT, PILOT);
+        day.ask(0, -1, 2, 0, 300);
+        day.tick(21);
+        day.call(2);
+        day.tick(1);
+        due("called back after 21 of 300 minutes", day.flight(0, 7), 8 + 7 * 21);
+        int[][] late = {{177, 178}, {178, 179}, {179, 180}, {180, 180}};
+        for (int[] row : late) {
+            GliderDay waits = club(PILOT, PILOT);
+            waits.ask(0, -1, 2, 0, row[0]);
+            waits.tick(row[0] - 1);
+            waits.ask(1, -1, 0, 0, 300);
+            waits.tick(3);
+            due("it lands late", waits.flight(0, 6), row[0] + 2);
+            due("one minute more than " + row[0], waits.flight(0, 7), 8 + 7 * row[1]);
+        }
+    }
+
     private static void costsOnlyWhenLanded() {
         GliderDay day = club(PILOT);
         day.ask(0, -1, 0, 500, 2);
@@ -899,6 +960,7 @@ public final class TermsBoundaryTests extends Checks {
         test("time is 0 at first", TermsBoundaryTests::timeIsZeroAtFirst);
         test("time goes on by tick alone", TermsBoundaryTests::timeGoesOnByTickAlone);
         test("time ends at 1500", TermsBoundaryTests::timeEndsAt1500);
+        test("what is in the air at 1500", TermsBoundaryTests::whatIsInTheAirAt1500StaysThere);
         test("the height divided by 20 is cut", TermsBoundaryTests::heightDividedBy20IsCut);
         test("the height divided by 100 is cut", TermsBoundaryTests::heightDividedBy100IsCut);
     }
@@ -941,6 +1003,7 @@ public final class TermsBoundaryTests extends Checks {
         test("reason 6, sunset at the end of time", TermsBoundaryTests::daylightToTheEndOfTime);
         test("reason 7, no cable", TermsBoundaryTests::noCable);
         test("reason 7, no tug", TermsBoundaryTests::noTug);
+        test("reason 8, the field is busy", TermsBoundaryTests::theFieldIsBusy);
         test("the first of the reasons", TermsBoundaryTests::theFirstOfTheReasons);
     }
 
@@ -972,6 +1035,7 @@ public final class TermsBoundaryTests extends Checks {
         test("on the ground from the landing on", TermsBoundaryTests::onTheGroundFromTheLandingOn);
         test("minutes count to the landing", TermsBoundaryTests::minutesFromTheBeginAreRightWhenItWaits);
         test("at most 180 minutes are paid for", TermsBoundaryTests::paidForAtMost180Minutes);
+        test("the minutes flown are paid for", TermsBoundaryTests::paidForTheMinutesFlown);
         test("a flight that landed costs", TermsBoundaryTests::costsOnlyWhenLanded);
     }
 
